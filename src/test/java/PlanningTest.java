@@ -125,6 +125,12 @@ public final class PlanningTest {
         x.setLoad(0, 40);
         CHECK.due("30 the counter falls to 0", x.secondsToStable(), 1);
         CHECK.due("31 powered", x.stablePorts(), 1);
+        x.advance(1);
+        CHECK.due("30 it is 0", x.secondsToStable(), 0);
+        x.setLoad(0, 41);
+        x.advance(1);
+        x.setLoad(0, 40);
+        CHECK.due("30 a counter of 1 falls too", x.secondsToStable(), 1);
         x.setLoad(0, 41);
         x.setOverloadLimit(1);
         x.advance(1);

@@ -7,7 +7,9 @@ public final class PowerTest {
         wrongInputs();
         powerUpOrder();
         powerUpSkipsWhatDoesNotFit();
+        smallestGrant();
         sheddingOrder();
+        allAreShed();
         shedPortIsPoweredAgain();
         overloadAndCooldown();
         cutsInPortOrder();
@@ -87,6 +89,21 @@ public final class PowerTest {
         event(x, 1, 2, 3, PoeSwitch.POWERED);
     }
 
+    private static void smallestGrant() {
+        PoeSwitch x = new PoeSwitch();
+        x.setCapacity(0, 1);
+        x.connect(5, 200, 0, 9, 1);
+        x.setRequest(5, 1);
+        CHECK.due("22 a request of 1", x.advance(5), 1);
+        CHECK.due("18 powered", x.poweredPorts(), 32);
+        CHECK.due("19 grant", x.grant(5), 1);
+        CHECK.due("20 load equal to it", x.overload(5), 0);
+        x.setLoad(5, 2);
+        x.advance(1);
+        CHECK.due("20 load above it", x.overload(5), 1);
+        CHECK.due("13 was powered", x.disconnect(5), 1);
+    }
+
     private static void sheddingOrder() {
         PoeSwitch x = new PoeSwitch();
         int[] priorities = {0, 2, 1, 2, 0};
@@ -109,6 +126,22 @@ public final class PowerTest {
         x.setWorking(0, false);
         CHECK.due("22 the last one", x.advance(1), 1);
         CHECK.due("18 none", x.poweredPorts(), 0);
+    }
+
+    private static void allAreShed() {
+        PoeSwitch x = new PoeSwitch();
+        for (int port = 0; port < 8; port++) {
+            x.connect(port, 200, 0, 9, 0);
+        }
+        x.advance(20);
+        CHECK.due("18 all", x.poweredPorts(), 255);
+        x.setWorking(0, false);
+        CHECK.due("28 all", x.shedIfFails(0), 255);
+        CHECK.due("22 all are shed", x.advance(1), 8);
+        CHECK.due("18 none", x.poweredPorts(), 0);
+        for (int i = 0; i < 8; i++) {
+            event(x, 8 + i, 20, 7 - i, PoeSwitch.SHED);
+        }
     }
 
     private static void shedPortIsPoweredAgain() {
