@@ -1,6 +1,7 @@
 /** Counts and prints the answers that are not as due; shared by the tests of the project. */
 final class Check {
     private final String name;
+    private String subject = "";
     private int wrong;
     private int asked;
 
@@ -8,12 +9,25 @@ final class Check {
         this.name = name;
     }
 
+    /** What is asked next is about this; it is printed before each wrong answer. */
+    void about(String text) {
+        subject = text.isEmpty() ? "" : text + ": ";
+    }
+
     void due(String call, long got, long want) {
         asked++;
         if (got != want) {
             wrong++;
-            System.out.println(name + ": " + call + " answered " + got + ", due is " + want);
+            System.out.println(name + ": " + subject + call + " answered " + got + ", due is " + want);
         }
+    }
+
+    int wrong() {
+        return wrong;
+    }
+
+    int asked() {
+        return asked;
     }
 
     /** Ends the test: exit code 1 if an answer was wrong, or if nothing was asked. */
