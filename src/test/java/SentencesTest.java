@@ -18,7 +18,12 @@ public final class SentencesTest {
     private static void run(Book.Entry entry, Check check) {
         check.about(entry.title());
         int before = check.asked();
-        entry.test().accept(check);
+        try {
+            entry.test().accept(check);
+        } catch (RuntimeException thrown) {
+            // No call may throw; the other tests run all the same.
+            check.due("a call throws " + thrown, 1, 0);
+        }
         check.due("asks nothing", check.asked() == before ? 1 : 0, 0);
     }
 
@@ -43,12 +48,7 @@ public final class SentencesTest {
         List<String> failing = new ArrayList<>();
         for (Book.Entry entry : book().entries()) {
             Check check = new Check("SentencesTest");
-            try {
-                run(entry, check);
-            } catch (RuntimeException thrownByTheProgram) {
-                failing.add(entry.title());
-                continue;
-            }
+            run(entry, check);
             if (check.wrong() > 0) {
                 failing.add(entry.title());
             }
