@@ -409,7 +409,7 @@ public final class PoeSwitch {
         }
 
         boolean isEligible() {
-            return enabled && detected && hasRequest();
+            return enabled && connected && detected && deviceClass != NONE;
         }
 
         boolean canPowerUp(int spare) {

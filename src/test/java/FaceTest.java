@@ -11,9 +11,11 @@ import java.util.TreeSet;
 import java.util.regex.Matcher;
 import java.util.regex.Pattern;
 
-/** The public face of the document, and the rules of LANGUAGE.md that can be read off the file. */
+/** The public face of the document, and the rules of LANGUAGE.md that can be read off the class. */
 public final class FaceTest {
     private static final Check CHECK = new Check("FaceTest");
+
+    private static final Path DOCUMENT = Path.of("../shared/DOC.md");
 
     private static final String[] METHODS = {
         "setCapacity(int,int)", "setWorking(int,boolean)", "setReserve(int)", "setRestartGap(int)",
@@ -31,7 +33,9 @@ public final class FaceTest {
 
     public static void main(String[] args) throws Exception {
         members();
+        document();
         nestedClasses();
+        sizes();
         source();
         CHECK.end();
     }
@@ -67,6 +71,35 @@ public final class FaceTest {
         CHECK.due("is public", constructors[0].getModifiers(), Modifier.PUBLIC);
     }
 
+    /** The lists above are the document's: its face, and the signature of each promise. */
+    private static void document() throws Exception {
+        if (!Files.isRegularFile(DOCUMENT)) {
+            System.out.println("no " + DOCUMENT + " here: the face is not compared with it");
+            return;
+        }
+        Set<String> face = new TreeSet<>();
+        Set<String> promised = new TreeSet<>();
+        Set<String> constants = new TreeSet<>();
+        for (String line : Files.readAllLines(DOCUMENT)) {
+            if (line.startsWith("    public int ")) {
+                face.add(signature(line.replaceAll("^ +public int |;$", "")));
+            } else if (line.startsWith("`int ")) {
+                promised.add(signature(line.replaceAll("^`int |`$", "")));
+            } else if (line.startsWith("    public static final int ")) {
+                constants.add(line.replaceAll("^ +public static final int |[ ;]", ""));
+            }
+        }
+        Set<String> methods = new TreeSet<>(Arrays.asList(METHODS));
+        same("the document's face", face, methods);
+        same("the promises' signatures", promised, methods);
+        same("the document's constants", constants, new TreeSet<>(Arrays.asList(CONSTANTS)));
+    }
+
+    /** Leaves out the names of the parameters. */
+    private static String signature(String text) {
+        return text.replaceAll("(int|boolean) \\w+", "$1").replace(" ", "");
+    }
+
     private static boolean isPrivate(Member member) {
         return Modifier.isPrivate(member.getModifiers());
     }
@@ -85,6 +118,30 @@ public final class FaceTest {
         for (Method method : PoeSwitch.class.getDeclaredMethods()) {
             boolean taken = isPrivate(method) && faceNames.contains(method.getName());
             CHECK.due("name " + method, taken ? 1 : 0, 0);
+        }
+    }
+
+    private static void sizes() {
+        Class<?>[] nested = PoeSwitch.class.getDeclaredClasses();
+        CHECK.due("at most twelve classes", nested.length < 12 ? 1 : 0, 1);
+        sizesOf(PoeSwitch.class);
+        for (Class<?> each : nested) {
+            sizesOf(each);
+        }
+    }
+
+    private static void sizesOf(Class<?> owner) {
+        int fields = 0;
+        for (Field field : owner.getDeclaredFields()) {
+            if (!Modifier.isStatic(field.getModifiers())) {
+                fields++;
+            } else {
+                CHECK.due("final " + field, Modifier.isFinal(field.getModifiers()) ? 1 : 0, 1);
+            }
+        }
+        CHECK.due("at most twenty fields in " + owner, fields <= 20 ? 1 : 0, 1);
+        for (Method method : owner.getDeclaredMethods()) {
+            CHECK.due("at most seven parameters " + method, method.getParameterCount() <= 7 ? 1 : 0, 1);
         }
     }
 
